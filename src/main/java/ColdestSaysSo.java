@@ -1331,7 +1331,7 @@ public final class ColdestSaysSo {
             end = 0;
             for (int read = 1; read <= MOST_BYTES; read++) {
                 step();
-                if (!isStatement(draft)) {
+                if (!readStatement(draft)) {
                     break;
                 }
                 step();
@@ -1372,15 +1372,15 @@ public final class ColdestSaysSo {
         }
 
         /** Whether a STATEMENT stands there, which comes to the draft; if not, the FAULT is at start. */
-        private boolean isStatement(Country draft) {
+        private boolean readStatement(Country draft) {
             if (isWord("person")) {
-                return !draft.isFull() && isPerson(draft);
+                return !draft.isFull() && readPerson(draft);
             }
             if (isWord("feed")) {
-                return isPortion(draft.fed, draft.people, MOST_FED);
+                return readPortion(draft.fed, draft.people, MOST_FED);
             }
             if (isWord("brandy")) {
-                return isPortion(draft.brandy, draft.people, MOST_BRANDY);
+                return readPortion(draft.brandy, draft.people, MOST_BRANDY);
             }
             int what = isWord("air") ? 0 : isWord("fall") ? 1 : isWord("day") ? 2 : isWord("coal") ? 3 : NONE;
             int v = what == NONE ? NONE : readNumber(MOST_TOLD[what]);
@@ -1402,14 +1402,14 @@ public final class ColdestSaysSo {
             return true;
         }
 
-        private boolean isPerson(Country draft) {
+        private boolean readPerson(Country draft) {
             int kind = readNumber(KIND_COUNT - 1);
             int a = kind == NONE ? NONE : readNumber(MOST_A);
             int pride = a == NONE ? NONE : readNumber(MOST_PRIDE);
             return pride != NONE && draft.settle(kind, a, pride) != NONE;
         }
 
-        private boolean isPortion(int[] portions, int people, int most) {
+        private boolean readPortion(int[] portions, int people, int most) {
             int one = readNumber(people - 1);
             int v = one == NONE ? NONE : readNumber(most);
             if (v == NONE || one >= portions.length) {

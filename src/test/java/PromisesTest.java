@@ -715,6 +715,7 @@ public final class PromisesTest {
         x = of("person 4 0 0;person 0 0 0;feed 0 3;air 27;fall 0");
         due("once so is enough", x.odds(3, 0), 1000000);
         due("seed stays", x.status(8), 1);
+        due("so at AIR 40", of("air 40;person 2 9 0").odds(0, 0), 1000000);
     }
 
     private static void leastAndGreatest() {
@@ -739,6 +740,8 @@ public final class PromisesTest {
         due("not more, but in all", x.brandyFor(0), 6);
         x.give(1, 0, 0);
         due("the other one speaks then", x.brandyFor(0), NONE);
+        due("nine is just enough", of("air 0;person 3 0 6").brandyFor(0), 9);
+        due("nine is just not enough", of("air 0;person 3 0 5").brandyFor(0), NONE);
         promise = 40;
         x = six();
         int[][] want = {{0, NONE}, {2, NONE}, {3, 4}, {4, 3}, {5, 3}, {6, 2}, {10, 2}, {11, 1}, {60, 1}};
