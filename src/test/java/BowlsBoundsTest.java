@@ -186,6 +186,8 @@ public final class BowlsBoundsTest {
         Bench.asks("just the last", star, 128, x -> x.mayBe(0, 7));
         Bench.asks("he and one more", star, 192, x -> x.mayBe(0, 6));
         Bench.asks("all but the first", star, 254, x -> x.mayBe(0, 1));
+        Bench.asks("all but the last", Bench.withRow(Bench.alike(8), 0, 0, 7), 127, x -> x.mayBe(0, 1));
+        Bench.asks("just the first", Bench.withRow(Bench.alike(3), 0, 0, 1, 1, 2), 1, x -> x.mayBe(0, 2));
     }
 
     private static void wrongs() {

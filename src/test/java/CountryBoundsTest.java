@@ -262,6 +262,7 @@ public final class CountryBoundsTest {
         faults("person 000", 10);
         faults("person 00 0", 11);
         Bench.is("12 is one", Bench.of("air 12"), 12, x -> x.status(1));
+        otherLetters();
         faults("AIR 1", 0);
         faults("Air 1", 0);
         faults("air -1", 4);
@@ -269,6 +270,22 @@ public final class CountryBoundsTest {
         faults("air 1.5", 5);
         faults("air\n1", 3);
         faults("air\t1", 3);
+    }
+
+    /** A WORD of which one letter is another, or is lacking, is none that can stand there. */
+    private static void otherLetters() {
+        String[] words = {"person", "feed", "brandy", "air", "fall", "day", "coal"};
+        Bench.World one = Bench.alike(1);
+        for (String word : words) {
+            for (int i = 0; i < word.length(); i++) {
+                faults(one, word.substring(0, i) + "x" + word.substring(i + 1) + " 0 0 0", 0);
+                faults(one, word.substring(0, i) + word.substring(i + 1) + " 0 0 0", 0);
+                faults(one, word.substring(0, i) + "1" + word.substring(i + 1) + " 0 0 0", 0);
+            }
+            faults(one, word + "x 0 0 0", 0);
+            faults(one, word + " a 0 0", word.length() + 1);
+            faults(one, word + " z 0 0", word.length() + 1);
+        }
     }
 
     /** The bytes of each sort begin and end where the document says. */

@@ -222,6 +222,13 @@ public final class ForesightBoundsTest {
             Bench.refused("neither 1 nor 0: " + spoke, told, Bench.STUCK, x -> x.prides(0, 2, 0));
             Bench.due("ahead of it", told.make().prides(0, 1, 0) >= 0 ? 1 : 0, 1);
         }
+        Bench.refused("no AIR, the first", Bench.withRow(Bench.crowd(), 3, 41, 0, 20, 0), Bench.STUCK, x -> x.prides(0, 2, 0));
+        Bench.refused("neither, the first", Bench.withRow(Bench.crowd(), 3, 20, 2, 20, 0), Bench.STUCK, x -> x.prides(0, 2, 0));
+        Bench.World last = Bench.with(world, x -> x.set(0, 38, 41));
+        Bench.refused("no AIR, the last of twenty", last, Bench.STUCK, x -> x.prides(0, 20, 0));
+        Bench.due("not among nineteen", last.make().prides(0, 19, 0) >= 0 ? 1 : 0, 1);
+        Bench.refused("neither, the last of twenty", Bench.with(world, x -> x.set(0, 39, 2)), Bench.STUCK,
+                x -> x.prides(0, 20, 0));
         Bench.refused("though no PRIDE is left already", Bench.withRow(Bench.crowd(), 3, 40, 1, 41, 0), Bench.STUCK,
                 x -> x.prides(0, 2, 0));
     }
@@ -286,6 +293,11 @@ public final class ForesightBoundsTest {
             Bench.refused("fewer elements ahead of STUCK", told, Bench.BAD, x -> x.kinds(0, 4, 0));
             Bench.due("ahead of it", told.make().kinds(0, 1, 0) >= 0 ? 1 : 0, 1);
         }
+        Bench.refused("no AIR, the first", Bench.withRow(Bench.crowd(), 3, 41, 0, 20, 0), Bench.STUCK, x -> x.kinds(0, 2, 0));
+        Bench.refused("no AIR, the last of twenty", Bench.with(world, x -> x.set(0, 38, 41)), Bench.STUCK,
+                x -> x.kinds(0, 20, 0));
+        Bench.refused("though no KIND is left already", Bench.withRow(Bench.crowd(), 3, 20, -1, 41, 0), Bench.STUCK,
+                x -> x.kinds(0, 2, 0));
         Bench.sentence(29, "KINDS (bits) of one by a told ROW of twos (AIR, COLD)");
         Bench.World one = Bench.of("person 3 7 0;brandy 0 1;person 0 0 0");
         Bench.asks("no twos", Bench.withRow(one, 1), 63, x -> x.kinds(0, 0, 0));
@@ -297,6 +309,11 @@ public final class ForesightBoundsTest {
         }
         Bench.asks("at AIR 40 all of 0", Bench.withRow(one, 1, 40, 0), 1 + 2 + 8, x -> x.kinds(0, 1, 0));
         Bench.asks("at AIR 0", Bench.withRow(one, 1, 0, 40), 1, x -> x.kinds(0, 1, 0));
+        Bench.asks("all the twos agree", Bench.withRow(one, 1, 40, 0, 33, 0, 32, 1), 2, x -> x.kinds(0, 3, 0));
+        Bench.asks("only the first n", Bench.withRow(one, 1, 40, 0, 33, 0, 32, 1), 2 + 8, x -> x.kinds(0, 2, 0));
+        Bench.asks("each has its own AIR", Bench.withRow(one, 1, 20, 20, 10, 30, 0, 40), 1, x -> x.kinds(0, 3, 0));
+        Bench.asks("the last doesn't", Bench.withRow(one, 1, 20, 20, 10, 30, 0, 41), 0, x -> x.kinds(0, 3, 0));
+        Bench.asks("the first doesn't", Bench.withRow(one, 1, 20, 21, 10, 30, 0, 40), 0, x -> x.kinds(0, 3, 0));
         for (long cold : new long[] {-1, 19, 21, (1L << 32) + 20, Long.MAX_VALUE}) {
             Bench.asks("no COLD of his: " + cold, Bench.withRow(one, 3, 20, cold), 0, x -> x.kinds(0, 1, 0));
         }

@@ -1,5 +1,6 @@
 /** The bounds of promises 1 to 8: a new object, SHELVES and what they hold. */
 public final class ShelvesBoundsTest {
+    private static final int NONE = Bench.NONE;
     private static final int ROW = Bench.ROW;
     private static final int ONE = Bench.ONE;
     private static final int BARE = Bench.BARE;
@@ -24,7 +25,7 @@ public final class ShelvesBoundsTest {
 
     private static void newObject() {
         Bench.sentence(1, "Nobody; SHELVES hold NOTHING; THE TAPE is empty");
-        int[] want = {0, 25, 1, 0, 2, Bench.NONE, 0, 0, 1, 0};
+        int[] want = {0, 25, 1, 0, 2, NONE, 0, 0, 1, 0};
         for (int what = 0; what < want.length; what++) {
             int w = what;
             Bench.asks("status(" + what + ")", Bench.fresh(), want[what], x -> x.status(w));
@@ -87,7 +88,7 @@ public final class ShelvesBoundsTest {
         Bench.outside("NOTHING ahead of BAD i", Bench.crowd(), Bench.NOTHING, 0, 39, (x, v) -> x.set(BARE, v, 1));
         Bench.range("i of 40", Bench.crowd(), 0, 39, (x, v) -> x.set(ROW, v, 1));
         Bench.range("i of 3", Bench.crowd(), 0, 2, (x, v) -> x.set(SHORT_ROW, v, 1));
-        Bench.refused("emptied", Bench.with(Bench.crowd(), x -> x.show(ROW, Bench.NONE)), Bench.NOTHING, x -> x.set(ROW, 0, 1));
+        Bench.refused("emptied", Bench.with(Bench.crowd(), x -> x.show(ROW, NONE)), Bench.NOTHING, x -> x.set(ROW, 0, 1));
         Bench.World set = Bench.with(Bench.crowd(), x -> x.set(SHORT_ROW, 1, 8));
         for (int i = 0; i < 4; i++) {
             int at = i;
@@ -222,7 +223,7 @@ public final class ShelvesBoundsTest {
     private static void holds() {
         Bench.sentence(6, "NONE NOTHING, no SHELF; 0 to 4 a ROW by its SORT; 10 and the number of one of the PEOPLE");
         for (int s : new int[] {-1, 8, Bench.MIN, Bench.MAX, BARE}) {
-            Bench.asks("holds(" + s + ")", Bench.crowd(), Bench.NONE, x -> x.holds(s));
+            Bench.asks("holds(" + s + ")", Bench.crowd(), NONE, x -> x.holds(s));
         }
         for (int one = 0; one < 8; one++) {
             int who = one;
@@ -233,15 +234,22 @@ public final class ShelvesBoundsTest {
     private static void show() {
         Bench.sentence(7, "SHELF s holds one of the PEOPLE, or NOTHING (person NONE): 1. BAD");
         Bench.range("SHELF", Bench.crowd(), 0, 7, (x, v) -> x.show(v, 0));
-        Bench.range("SHELF, NOTHING", Bench.crowd(), 0, 7, (x, v) -> x.show(v, Bench.NONE));
+        Bench.range("SHELF, NOTHING", Bench.crowd(), 0, 7, (x, v) -> x.show(v, NONE));
         Bench.range("person of six", Bench.crowd(), -1, 5, (x, v) -> x.show(ROW, v));
         Bench.range("person of eight", Bench.alike(8), -1, 7, (x, v) -> x.show(0, v));
         Bench.range("nobody is there", Bench.fresh(), -1, -1, (x, v) -> x.show(0, v));
+        for (int one = NONE; one < 8; one++) {
+            int who = one;
+            Bench.is("show", Bench.alike(8), 1, x -> x.show(7, who));
+        }
         Bench.is("one of two SHELVES", Bench.with(Bench.crowd(), x -> x.show(7, 2)), 12, x -> x.holds(ONE));
-        Bench.is("NOTHING over a ROW", Bench.with(Bench.crowd(), x -> x.show(ROW, Bench.NONE)), Bench.NONE, x -> x.holds(ROW));
-        Bench.is("NOTHING over one", Bench.with(Bench.crowd(), x -> x.show(ONE, Bench.NONE)), Bench.NONE, x -> x.holds(ONE));
-        Bench.is("a ROW isn't there behind one", Bench.with(Bench.crowd(), x -> x.show(ROW, 0), x -> x.show(ROW, -1)), 0,
-                x -> x.element(ROW, 39));
+        Bench.is("NOTHING over a ROW", Bench.with(Bench.crowd(), x -> x.show(ROW, NONE)), NONE, x -> x.holds(ROW));
+        Bench.is("NOTHING over one", Bench.with(Bench.crowd(), x -> x.show(ONE, NONE)), NONE, x -> x.holds(ONE));
+        for (int i : new int[] {0, 1, 39}) {
+            Bench.World set = Bench.with(Bench.crowd(), x -> x.set(ROW, i, 5), x -> x.show(ROW, 0));
+            Bench.asks("no ROW any more, element " + i, set, 0, x -> x.element(ROW, i));
+            Bench.asks("nor behind one", Bench.with(set, x -> x.show(ROW, NONE)), 0, x -> x.element(ROW, i));
+        }
     }
 
     private static void says() {

@@ -92,6 +92,9 @@ public final class TruthBoundsTest {
             Bench.asks("nobody", Bench.fresh(), 0, x -> x.odds(till, 0));
             Bench.asks("it is so now", Bench.of("person 0 0 4"), 1000000, x -> x.odds(till, 0));
             Bench.asks("it never is", Bench.of("person 0 0 20;air 40"), 0, x -> x.odds(till, 0));
+            Bench.asks("it never is, at AIR 0", Bench.of("person 1 2 14;air 0"), 0, x -> x.odds(till, 0));
+            Bench.asks("it is so now, at AIR 40", Bench.of("person 2 6 0;air 40"), 1000000, x -> x.odds(till, 0));
+            Bench.asks("it is so now, at AIR 0", Bench.of("person 1 1 14;air 0"), 1000000, x -> x.odds(till, 0));
         }
         // He SPEAKS behind five DAYS at the soonest, by FALL 3 on each of them.
         Bench.asks("one of 1024, cut", Bench.of("person 0 0 19"), 976, x -> x.odds(5, 0));
@@ -120,6 +123,8 @@ public final class TruthBoundsTest {
         Bench.sentence(37, "FED is 1 less each DAY (0 at least)");
         Bench.asks("FED 1", Bench.of("person 0 0 5;air 24;feed 0 1"), 1000000, x -> x.odds(1, 0));
         Bench.asks("FED 1, now", Bench.of("person 0 0 5;air 24;feed 0 1"), 0, x -> x.odds(0, 0));
+        Bench.asks("FED 2", Bench.of("person 0 0 5;air 24;feed 0 2"), 750000, x -> x.odds(1, 0));
+        Bench.asks("FED 2, two DAYS", Bench.of("person 0 0 5;air 24;feed 0 2"), 1000000, x -> x.odds(2, 0));
         Bench.asks("FED 0 stays 0", Bench.of("person 0 0 5;air 25"), 750000, x -> x.odds(1, 0));
         Bench.asks("FED 40", Bench.of("person 2 5 0;air 0;feed 0 40"), 1000000, x -> x.odds(1, 0));
         // Now the first SPEAKS; tomorrow the other one, FED no more, is COLDEST and silent.
@@ -316,6 +321,12 @@ public final class TruthBoundsTest {
         for (int s = 0; s < 8; s++) {
             int at = s;
             Bench.is("holds(" + s + ")", Bench.with(world, x -> x.back()), want[s], x -> x.holds(at));
+        }
+        for (int s = 0; s < 8; s++) {
+            int at = s;
+            Bench.World gone = Bench.with(Bench.fresh(), x -> x.image(), x -> x.person(0, 0, 0), x -> x.show(at, 0));
+            Bench.is("holds(" + s + ")", gone, 10, x -> x.holds(at));
+            Bench.is("holds(" + s + ") then", Bench.with(gone, x -> x.back()), NONE, x -> x.holds(at));
         }
         Bench.is("SHELVES in use", world, 4, x -> x.status(9));
         Bench.is("SHELVES in use then", Bench.with(world, x -> x.back()), 2, x -> x.status(9));
