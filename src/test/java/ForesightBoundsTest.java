@@ -368,6 +368,8 @@ public final class ForesightBoundsTest {
         Bench.range("person of eight", Bench.alike(8), 0, 7, (x, v) -> x.brandyFor(v));
         Bench.outside("nobody is there", Bench.fresh(), Bench.BAD, 0, -1, (x, v) -> x.brandyFor(v));
         Bench.asks("0", Bench.of("person 3 0 0;air 30"), 0, x -> x.brandyFor(0));
+        Bench.asks("0, and far from it", Bench.of("person 3 0 0;air 40"), 0, x -> x.brandyFor(0));
+        Bench.asks("0, of who drinks in vain", Bench.of("person 0 0 0;air 30"), 0, x -> x.brandyFor(0));
         Bench.asks("1", Bench.of("person 3 0 0;air 29"), 1, x -> x.brandyFor(0));
         Bench.asks("9", Bench.of("person 3 0 0;air 12"), 9, x -> x.brandyFor(0));
         Bench.asks("NONE", Bench.of("person 3 0 0;air 11"), NONE, x -> x.brandyFor(0));
