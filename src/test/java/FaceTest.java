@@ -36,6 +36,7 @@ public final class FaceTest {
         names();
         constructors();
         source();
+        sizes();
         System.out.println(wrong == 0 ? "the face is as due" : wrong + " faults of the face");
         if (wrong != 0) {
             System.exit(1);
@@ -113,6 +114,37 @@ public final class FaceTest {
         for (String line : code.split("\n")) {
             boolean ofField = line.contains("private final") || line.contains("shelves[s] = new Shelf();");
             check(!line.contains("new ") || ofField, "rule 12, look at it: " + line.trim());
+        }
+    }
+
+    /** Rule 11: methods of some sixty lines, some twelve classes, some twenty fields beside constants. */
+    private static void sizes() throws IOException {
+        List<Class<?>> all = new ArrayList<>(Arrays.asList(ColdestSaysSo.class.getDeclaredClasses()));
+        all.add(ColdestSaysSo.class);
+        check(all.size() <= 12, "rule 11: " + all.size() + " classes");
+        for (Class<?> one : all) {
+            int fields = 0;
+            for (Field f : one.getDeclaredFields()) {
+                fields += Modifier.isStatic(f.getModifiers()) ? 0 : 1;
+            }
+            check(fields <= 20, "rule 11: " + fields + " fields in " + one);
+            for (Method m : one.getDeclaredMethods()) {
+                check(m.getParameterCount() <= 7, "rule 11: more than seven parameters: " + m);
+            }
+        }
+        String head = "";
+        int began = 0;
+        String[] lines = Files.readString(Path.of("src/main/java/ColdestSaysSo.java")).split("\n");
+        for (int i = 0; i < lines.length; i++) {
+            if (lines[i].matches("( {4}| {8})[a-z][^=;]*\\(.*\\) \\{") && !lines[i].matches(" +(for|while|if|switch) .*")) {
+                head = lines[i];
+                began = i;
+            }
+            int in = head.length() - head.stripLeading().length();
+            if (in > 0 && lines[i].equals(" ".repeat(in) + "}")) {
+                check(i - began <= 60, "rule 11: " + (i - began) + " lines: " + head.trim());
+                head = "";
+            }
         }
     }
 }
