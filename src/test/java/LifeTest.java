@@ -26,7 +26,7 @@ public final class LifeTest {
         }
     }
 
-    /** Eight PEOPLE, a ROW of twenty twos, BOWLS that don't CLASH; calls: how many it has taken. */
+    /** Eight PEOPLE, a ROW of twenty twos that don't CLASH: how many calls it took. */
     private static int settle(ColdestSaysSo x) {
         int calls = 0;
         for (int i = 0; i < 8; i++, calls++) {
